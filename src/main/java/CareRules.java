@@ -253,7 +253,7 @@ public final class CareRules {
         }
         field.prepare(now);
         bills.enter(now, asked, cell, field.hurts[cell]);
-        return who == 3 ? totalAt(bills, cell) : costAt(bills, cell, who);
+        return who == 3 ? totalAt(cell) : costAt(cell, who);
     }
 
     public long plain(int doings) {
@@ -340,7 +340,7 @@ public final class CareRules {
         if (refused != FINDINGS) {
             return finding(refused);
         }
-        return totalAt(bills, play.rests[i]) - field.plainAt(now, field.firstBest(now));
+        return totalAt(play.rests[i]) - field.plainAt(now, field.firstBest(now));
     }
 
     public int how(int rule, int i) {
@@ -443,7 +443,7 @@ public final class CareRules {
             return finding(STATE);
         }
         playBy(asked);
-        return totalAt(bills, play.cheapest(field)) - field.plainAt(now, field.firstBest(now));
+        return totalAt(play.cheapest(field)) - field.plainAt(now, field.firstBest(now));
     }
 
     public int settle(int rule, int doings, int x) {
@@ -695,18 +695,19 @@ public final class CareRules {
         return i < play.restCount ? FINDINGS : NONE;
     }
 
-    private long costAt(Bills entered, int cell, int who) {
+    /** COST of 0, 1 or the THIRD at a cell that stands in bills. */
+    private long costAt(int cell, int who) {
         long own = who == 2 ? 0 : now.ownCost(who, ownOf(cell, who));
-        return own + (long) field.timesAt(cell, now.settings[SHIFT]) * entered.shares[who][cell];
+        return own + (long) field.timesAt(cell, now.settings[SHIFT]) * bills.shares[who][cell];
     }
 
-    private long totalAt(Bills entered, int cell) {
-        return costAt(entered, cell, 0) + costAt(entered, cell, 1) + costAt(entered, cell, 2);
+    private long totalAt(int cell) {
+        return costAt(cell, 0) + costAt(cell, 1) + costAt(cell, 2);
     }
 
     private long costBy(Rule rule, int who, int cell) {
         bills.enter(now, rule, cell, field.hurts[cell]);
-        return costAt(bills, cell, who);
+        return costAt(cell, who);
     }
 
     /** The cell to which one of the TWO would go from a cell by a RULE. */

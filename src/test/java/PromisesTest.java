@@ -47,6 +47,7 @@ public final class PromisesTest {
         p29();
         p30();
         p31();
+        p31Ends();
         p32();
         p33();
         p34();
@@ -262,6 +263,8 @@ public final class PromisesTest {
         fault("chances 1;size 1;", 0);
         fault("chance ab;size 1;", 7);
         fault("chance c;size 1;", 7);
+        fault("chance -x1;size 1;", 8);
+        fault("chance (x1);size 1;", 8);
         fault("chance A;size 1;", 7);
         fault("chance a\tb;size 1;", 8);
         fault("chance \u00e9;size 1;", 7);
@@ -390,6 +393,29 @@ public final class PromisesTest {
         x.set(4, -64);
         harm("chance 127;size 1;");
         is("127 less 64", x.hurt(0, 0), 63);
+        p7Growing();
+    }
+
+    /** What is added counts at once, and what undo() takes back, too. */
+    private static void p7Growing() {
+        begin(7);
+        harm("chance 1+a+b*2+g*8+h*16;size 1000*a+100*b+10*g+h;");
+        cares(0, 0);
+        cares(1, 0);
+        is("at 0", x.hurt(0, 0), 1);
+        x.image();
+        int[] tops = {0, 0, 0, 0};
+        int[] order = {0, 1, 2, 3, 1, 0, 3, 2, 2, 3, 0, 0, 1, 1, 1, 0};
+        for (int which : order) {
+            is("added", which < 2 ? x.care(which, 0) : x.going(which - 2, 0), tops[which] + 1);
+            tops[which]++;
+            int doings = tops[0] * 1000 + tops[1] * 100 + tops[2] * 10 + tops[3];
+            is("at " + doings, x.hurt(doings, 1), doings);
+            is("chance there", x.hurt(doings, 0), Math.min(64, 1 + tops[0] + tops[1] * 2 + tops[2] * 8 + tops[3] * 16));
+        }
+        x.undo();
+        is("no more", x.hurt(1, 1), BEYOND);
+        is("at 0 again", x.hurt(0, 0), 1);
     }
 
     private static void p8() {
@@ -415,7 +441,10 @@ public final class PromisesTest {
         is("PARTS", x.rule(3, 88, 8), 3);
         is("PARTS of 80", x.rule(3, 80, 0), 4);
         is("TURNED", x.rule(4, 8, MIN), 5);
-        for (int k = 6; k < 20; k++) {
+        is("CARE of bar 0", x.rule(2, 0, 0), 6);
+        is("PARTS of bars 0", x.rule(3, 0, 0), 7);
+        is("TURNED of bar 0", x.rule(4, 0, 0), 8);
+        for (int k = 9; k < 20; k++) {
             is("rule " + k, x.rule(0, 0, 0), k);
         }
         is("full", x.rule(0, 0, 0), FULL);
@@ -453,12 +482,30 @@ public final class PromisesTest {
         is("a word", told("pays size"), -6);
         is("all names", told(" pays a+b+g+h  "), 1);
         is("no finding", x.status(-1), 0);
+        p10Full();
         for (int k = 2; k < 20; k++) {
             x.rule(0, 0, 0);
         }
         is("FULL before a FAULT", told("pays"), FULL);
         is("full", told("pays 1"), FULL);
         is("tape stays when full", x.look(6), 6);
+    }
+
+    /** Texts that fill THE TAPE to its end, and ones that are shorter than what was there before. */
+    private static void p10Full() {
+        CareRules before = x;
+        x = new CareRules();
+        is("digits to the end", told("pays " + "0".repeat(113) + "12"), 0);
+        is("their value", x.due(0, 0, 0, 0), 12);
+        is("blanks to the end", told("pays 7" + " ".repeat(114)), 1);
+        is("a name at the end", told("pays 0" + "+1".repeat(56) + "+a"), 2);
+        is("its value", x.due(2, 7, 0, 0), 63);
+        is("too early at the end", told("pays " + "1+".repeat(57) + "+"), -120);
+        is("blanks, then too early", told("pays" + " ".repeat(116)), -121);
+        is("what was behind doesn't count", told("pays 5"), 3);
+        is("nor digits", x.due(3, 0, 0, 0), 5);
+        x = before;
+        x.wipe();
     }
 
     /** One rule of each kind, by its kind. */
@@ -590,6 +637,7 @@ public final class PromisesTest {
         is("cover total", x.cost(2, 11, 3), -42 * UNIT + 32 * 512 * 20);
         is("no going, no harm", x.cost(0, 1010, 0), -28 * UNIT);
         is("nor price", x.cost(0, 2100, 3), 0);
+        is("nor anything", x.cost(0, 0, 0), 0);
         goings(0, 50);
         goings(1, 0);
         is("goings times prices, and times each other", x.cost(0, 2122, 3), (10 - 50 + 6) * UNIT);
@@ -621,6 +669,14 @@ public final class PromisesTest {
         is("0 is not seen below 0", x.cost(0, 11, 0), 100 * UNIT);
         x.set(0, 8);
         is("always wrong", x.cost(0, 2011, 0), 100 * UNIT);
+        told("pays 8+8*a");
+        is("one less than 2", x.cost(4, 2011, 0), 25 * UNIT);
+        is("one less than 1", x.cost(4, 1011, 0), 25 * UNIT / 2);
+        is("0 stays 0", x.cost(4, 11, 0), 25 * UNIT / 2);
+        x.set(0, 1);
+        is("one eighth", x.cost(4, 2011, 0), 7 * 100 * UNIT * 3 / 64 + 100 * UNIT * 2 / 64);
+        x.set(0, 7);
+        is("seven eighths", x.cost(4, 2011, 0), 100 * UNIT * 3 / 64 + 7 * 100 * UNIT * 2 / 64);
         x.set(0, 0);
         x.set(1, 70);
         is("no more than the purse", x.cost(1, 11, 0), 70 * UNIT);
@@ -680,6 +736,10 @@ public final class PromisesTest {
         is("only 1 has", x.least(), STATE);
         x.care(0, 0);
         is("nothing to do", x.least(), 0);
+        begin(17);
+        x.care(0, 0);
+        is("only 0 has", x.least(), STATE);
+        is("best, too", x.best(0), STATE);
         street(17);
         is("at 2011", x.least(), (5 - 42) * UNIT + 4 * 512 * 20);
         x.set(4, -4);
@@ -699,6 +759,12 @@ public final class PromisesTest {
         is("MAX", x.best(MAX), NONE);
         is("-2", x.best(-2), BEYOND);
         is("MIN", x.best(MIN), BEYOND);
+        begin(18);
+        cares(0, 3);
+        cares(1, 0);
+        goings(0, 1);
+        is("0 may be best", x.best(0), 0);
+        is("alone", x.best(-1), 1);
     }
 
     private static void p19() {
@@ -767,6 +833,7 @@ public final class PromisesTest {
         is("1 could", x.judge(0, 2111), 2);
         is("both could", x.judge(0, 100), 3);
         is("a REST", x.judge(0, 2011), 0);
+        is("at 0", x.judge(0, 0), 3);
         is("rule", x.judge(1, 11), BEYOND);
         is("doings", x.judge(0, 3011), BEYOND);
         is("doings -1", x.judge(0, -1), BEYOND);
@@ -834,6 +901,13 @@ public final class PromisesTest {
         is("the worse", x.worst(0), 5 * 512 * 8);
         is("the first", x.lost(0, 0), 5 * 512 * 8);
         is("the second", x.lost(0, 1), 0);
+        street(24);
+        x.rule(0, 0, 0);
+        x.rule(1, 0, 0);
+        x.cover(1, 8);
+        is("what the third bears is lost, too", x.worst(2), 28 * 512 * 20 - 5 * UNIT);
+        is("by STRICT nothing", x.worst(1), 0);
+        is("by RULE", x.worst(0), 28 * 512 * 20 - 5 * UNIT);
         chase(24);
         is("none", x.worst(0), NONE);
         is("rule -1", x.worst(-1), BEYOND);
@@ -862,6 +936,14 @@ public final class PromisesTest {
         goings(1, 90);
         harm("chance 40-b*20;size 20;");
         is("turned bar 2", x.find(4), 2);
+        // CARE is free and helps nothing: below bar 8, which is as STRICT, 0 goes out at a loss to all.
+        begin(25);
+        cares(0, 0, 0, 0, 0, 0, 0, 0, 0);
+        cares(1, 0);
+        goings(0, 10);
+        goings(1, 60);
+        harm("chance 64;size 50;");
+        is("bar 8", x.find(2), 8);
     }
 
     private static void p26() {
@@ -884,12 +966,17 @@ public final class PromisesTest {
         is("TOLD breaks 0", x.keeps(2, 0), 0);
         is("beyond the CARES that there are", x.keeps(3, 0), 1);
         is("nor law 1", x.keeps(3, 1), 1);
+        told("pays a=3");
+        told("pays b=2");
+        is("CARE 3 of 0 isn't there", x.keeps(5, 0), 1);
+        is("for law 1 neither", x.keeps(5, 1), 1);
+        is("nor is CARE 2 of 1", x.keeps(6, 1), 1);
         is("COVER keeps 2", x.keeps(4, 2), 1);
         x.set(0, 8);
         is("whatever WRONG is", x.keeps(0, 1), 1);
         is("law -1", x.keeps(0, -1), BEYOND);
         is("law 3", x.keeps(0, 3), BEYOND);
-        is("rule", x.keeps(5, 0), BEYOND);
+        is("rule", x.keeps(7, 0), BEYOND);
     }
 
     private static void p27() {
@@ -905,6 +992,10 @@ public final class PromisesTest {
         is("law 1 from the best CARE on", x.breach(0, 1), 20);
         is("law 0: the lesser CARE", x.breach(1, 0), 11);
         is("law 1 at b 1", x.breach(2, 1), 21);
+        told("pays a");
+        told("pays a*b");
+        is("law 0 at 0", x.breach(3, 0), 0);
+        is("law 0 at 1", x.breach(4, 0), 1);
         is("none of 2", x.breach(0, 2), NONE);
         is("none of 0", x.breach(0, 0), NONE);
         is("law 3", x.breach(0, 3), BEYOND);
@@ -1026,7 +1117,47 @@ public final class PromisesTest {
         is("no more than the finding counts", x.status(-1), 6);
         chase(31);
         x.rule(1, 0, 0);
-        is("without RESTS the other is better", x.edge(0, 1) != NONE ? 1 : 0, 1);
+        // Till CHANCE is 1/64 the TOLD one has no RESTS; then a harm costs less than care, and both are alike.
+        is("without RESTS the other is better", x.edge(0, 1), -63);
+        is("the other way, too", x.edge(1, 0), -63);
+        told("pays 64*(b=a)");
+        is("both without are alike", x.edge(0, 2), NONE);
+    }
+
+    /** RULE and STRICT; CARE 0 is free, CARE 1 has a PRICE. */
+    private static void pair(int price, String text) {
+        begin(31);
+        x.rule(0, 0, 0);
+        x.rule(1, 0, 0);
+        cares(0, 0, price);
+        cares(1, 0);
+        goings(0, 999);
+        goings(1, 999);
+        is(text, harm(text), 1);
+    }
+
+    private static long edgeFrom(int shift) {
+        x.set(4, shift);
+        return x.edge(0, 1);
+    }
+
+    private static void p31Ends() {
+        // CARE 1 saves 1/64 at 64 alone.
+        pair(0, "chance -63-a*10;size 50;");
+        is("farthest up", edgeFrom(-64), 64);
+        is("next to it", edgeFrom(64), 63);
+        is("one up", edgeFrom(63), 64);
+        // CARE 1 harms at -64 alone.
+        pair(0, "chance 127+a*10;size 50;");
+        is("farthest down", edgeFrom(64), -64);
+        is("next to it", edgeFrom(-64), -63);
+        is("one down", edgeFrom(-63), -64);
+        // At -65, were there one, care would save 70, less than it costs.
+        pair(71, "chance 100-a*36;size 128;");
+        is("no SHIFT below -64", edgeFrom(-64), -35);
+        // At 65, were there one, care would save 126.
+        pair(127, "chance 10-a*74;size 128;");
+        is("no SHIFT above 64", edgeFrom(64), 53);
     }
 
     private static void p32() {
@@ -1060,6 +1191,7 @@ public final class PromisesTest {
         is("without weight not needed", x.whose(135, 12), 131);
         is("alone", x.whose(2, 3), 2);
         is("only the set counts", x.whose(3, 8), 3);
+        is("all of MANY", x.whose(255, 12), 131);
     }
 
     private static void p34() {
@@ -1086,6 +1218,12 @@ public final class PromisesTest {
         is("nothing", x.part(134, 1, 2), 0);
         is("0", x.part(134, 0, 1), 0);
         is("alone", x.part(128, 9999, 7), 9999);
+        x.many(0, 1);
+        x.many(1, 1);
+        x.many(2, 1);
+        is("0 has what is left", x.part(7, 100, 0), 34);
+        is("1 has not", x.part(7, 100, 1), 33);
+        is("all of MANY", x.part(255, 60, 7), 30);
     }
 
     private static void p35() {
@@ -1294,6 +1432,7 @@ public final class PromisesTest {
         cares(0, 0);
         cares(1, 0);
         is("no HARM again", x.hurt(0, 0), 0);
+        is("nor HURT", x.hurt(0, 1), 0);
         is("look", x.look(5), 0);
     }
 
