@@ -1058,10 +1058,12 @@ public final class CareRules {
             for (int going = 0; going < state.goings[0]; going++) {
                 for (int other = 0; other < state.goings[1]; other++) {
                     int cell = firstCell | going << 2 | other;
-                    cells[count] = cell;
-                    count++;
-                    both[cell] = going * other;
-                    learn(cell);
+                    if (count < CELLS && cell < CELLS) {
+                        cells[count] = cell;
+                        count++;
+                        both[cell] = going * other;
+                        learn(cell);
+                    }
                 }
             }
         }
@@ -1077,7 +1079,7 @@ public final class CareRules {
         }
 
         int chanceAt(int cell, int shift) {
-            return clamp(chances[cell] + shift, 0, WHOLE);
+            return Math.max(0, Math.min(WHOLE, chances[cell] + shift));
         }
 
         /** CHANCE times both GOINGS, in 64ths. */
@@ -1203,8 +1205,10 @@ public final class CareRules {
         private void enterRest(int cell, long thirdCost) {
             long total = costs[0][cell] + costs[1][cell] + thirdCost;
             greatestTotal = restCount == 0 ? total : Math.max(greatestTotal, total);
-            rests[restCount] = cell;
-            restCount++;
+            if (restCount < CELLS) {
+                rests[restCount] = cell;
+                restCount++;
+            }
         }
 
         /** The first cell with the least COSTS of the TWO together. */
@@ -1276,16 +1280,17 @@ public final class CareRules {
             return top > 0 ? stack[0] : 0;
         }
 
+        // Takes the cell apart itself, for it stands at the end of the longest chain of calls.
         private static int valueOfName(int name, int cell) {
             switch (name) {
                 case NAME_A:
-                    return careOf(cell, 0);
+                    return cell >> 7 & 7;
                 case NAME_B:
-                    return careOf(cell, 1);
+                    return cell >> 4 & 7;
                 case NAME_G:
-                    return goingOf(cell, 0);
+                    return cell >> 2 & 3;
                 default:
-                    return goingOf(cell, 1);
+                    return cell & 3;
             }
         }
 
@@ -1498,16 +1503,21 @@ public final class CareRules {
 
         /** The step of the NAME that the word is, or 0. */
         private int nameStep() {
-            if (spells("a")) {
-                return Text.NAME_A;
+            if (behind - place != 1) {
+                return 0;
             }
-            if (spells("b")) {
-                return Text.NAME_B;
+            switch (tape.bytes[place]) {
+                case 'a':
+                    return Text.NAME_A;
+                case 'b':
+                    return Text.NAME_B;
+                case 'g':
+                    return Text.NAME_G;
+                case 'h':
+                    return Text.NAME_H;
+                default:
+                    return 0;
             }
-            if (spells("g")) {
-                return Text.NAME_G;
-            }
-            return spells("h") ? Text.NAME_H : 0;
         }
 
         private boolean spells(String word) {

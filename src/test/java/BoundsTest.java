@@ -789,6 +789,11 @@ public final class BoundsTest {
         s.answers("no DUE", BoundsTest::suit, x -> x.settle(1, 1000, 0), 0);
         s.sentence(30, "A HARM at DOINGS, CARE of 0 SEEN as it is");
         s.answers("whatever WRONG is", BoundsTest::suit, x -> x.set(0, 8) + x.settle(1, 1000, 50), 0);
+        // By TURNED with bar 1 the CARE of 1 says if there is a DUE, by CARE with bar 1 that of 0.
+        s.answers("and the CARE of 1", BoundsTest::suit,
+            x -> x.care(1, 0) * 0 + x.rule(4, 1, 0) * 0 + 10 * x.settle(4, 100, 50) + x.settle(4, 1000, 50), 10);
+        s.answers("each for its own", BoundsTest::suit,
+            x -> x.care(1, 0) * 0 + 10 * x.settle(1, 100, 50) + x.settle(1, 1000, 50), 10);
         s.sentence(30, "x suits 1 if it is PAID less what LAW costs 1, or more");
         s.answers("50", BoundsTest::suit, x -> x.settle(0, 0, 50), 1);
         s.answers("49", BoundsTest::suit, x -> x.settle(0, 0, 49), 2);
@@ -1166,6 +1171,11 @@ public final class BoundsTest {
             Scenes.town(x);
             return x.undo();
         }, 2);
+        for (int before = 0; before < 4; before++) {
+            for (int after = 0; after < 4; after++) {
+                otherGrowth(before, after);
+            }
+        }
         s.sentence(40, "NONE: nothing is kept.");
         s.refuses("at first", Scenes::pair, CareRules::undo, NONE);
         s.refuses("torn", x -> {
@@ -1179,6 +1189,31 @@ public final class BoundsTest {
         s.answers("undo() keeps it", Scenes::town, x -> 10 * x.undo() + x.tear(), 21);
         s.changesNothing("nothing else changes", Scenes::pair, CareRules::tear, 0);
         s.answers("what is stays", Scenes::town, x -> x.tear() + x.look(4), 8);
+    }
+
+    /** One of CARES or GOINGS grows (as look() numbers them), that is undone, and one grows anew. */
+    private static void otherGrowth(int before, int after) {
+        int[] places = {1000, 100, 10, 1};
+        CareRules x = new CareRules();
+        Scenes.pair(x);
+        Scenes.harm(x, "chance 1;size 1000*a+100*b+10*g+h;");
+        x.rule(0, 0, 0);
+        x.image();
+        grow(x, before);
+        s.is("grown " + before, x.hurt(places[before], 1), places[before]);
+        s.is("RULES", x.undo(), 1);
+        grow(x, after);
+        s.is("grown " + after + " after " + before, x.hurt(places[after], 1), places[after]);
+        s.is("two DOINGS", x.rest(0, 1), places[after]);
+        s.is("none else", x.rest(0, -1), 2);
+    }
+
+    private static void grow(CareRules x, int which) {
+        if (which < 2) {
+            x.care(which, 0);
+        } else {
+            x.going(which - 2, 0);
+        }
     }
 
     private static void changeAll(CareRules x) {

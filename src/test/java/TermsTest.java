@@ -199,6 +199,8 @@ public final class TermsTest {
         harmIs("chance 1;size ;", -15);
         harmIs("chance chance;size 1;", -8);
         harmIs("pays 1", -1);
+        harmIs("chance 1;pays 1;", -10);
+        harmIs("pays 1;size 1;", -1);
         says("what a TOLD rule says: pays E (no ; behind)");
         toldIs("pays 1", 0);
         toldIs("pays 1;", -7);
@@ -206,6 +208,7 @@ public final class TermsTest {
         toldIs("pays pays", -6);
         toldIs("1", -1);
         toldIs("chance 1", -1);
+        toldIs("size 1", -1);
         says("E: SUM, perhaps < or = and a SUM.");
         toldIs("pays 1<2", 0);
         toldIs("pays 1=2", 0);
