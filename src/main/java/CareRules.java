@@ -65,6 +65,8 @@ public final class CareRules {
     private static final int EIGHTHS = 8;
     private static final int WHOLE_BILL = WHOLE * EIGHTHS;
     private static final int WHOLE_COST = WHOLE * WHOLE_BILL;
+    // Greater than any COST.
+    private static final long ABOVE_ALL = 1L << 62;
 
     private final State now;
     private final State kept;
@@ -145,7 +147,7 @@ public final class CareRules {
     public int harm() {
         Harm found = reader.readHarm();
         if (found == null) {
-            return -1 - reader.place;
+            return -1 - reader.fault();
         }
         now.harm = found;
         tape.empty();
@@ -198,7 +200,7 @@ public final class CareRules {
         }
         Text text = reader.readTold();
         if (text == null) {
-            return -1 - reader.place;
+            return -1 - reader.fault();
         }
         Rule made = new Rule();
         made.beTold(text, field.stack);
@@ -385,7 +387,7 @@ public final class CareRules {
             return finding(STATE);
         }
         int found = -1;
-        long least = Long.MAX_VALUE;
+        long least = ABOVE_ALL;
         for (int bar = 0; bar <= MOST_BAR; bar++) {
             trial.beOfBars(kind, bar, 0, 0);
             playBy(trial);
@@ -713,7 +715,7 @@ public final class CareRules {
     /** The cell to which one of the TWO would go from a cell by a RULE. */
     private int answerAt(Rule rule, int who, int cell) {
         int answered = cell;
-        long least = Long.MAX_VALUE;
+        long least = ABOVE_ALL;
         for (int care = 0; care < now.cares[who]; care++) {
             for (int going = 0; going < now.goings[who]; going++) {
                 int tried = withOwn(cell, who, care, going);
@@ -1094,7 +1096,7 @@ public final class CareRules {
 
         int firstBest(State state) {
             int best = 0;
-            long least = Long.MAX_VALUE;
+            long least = ABOVE_ALL;
             for (int i = 0; i < count; i++) {
                 long plain = plainAt(state, cells[i]);
                 if (plain < least) {
@@ -1151,14 +1153,14 @@ public final class CareRules {
         final int[] rests = new int[CELLS];
         int restCount = 0;
         /** The greatest TOTAL of a REST; without RESTS greater than any. */
-        long greatestTotal = Long.MAX_VALUE;
+        long greatestTotal = ABOVE_ALL;
         private final long[][] ownCosts = new long[2][OWNS];
         // The least COST of each of the TWO, by what the other does.
         private final long[][] leasts = new long[2][OWNS];
 
         void playOut(State state, Field field, Bills bills, int shift) {
             for (int who = 0; who < 2; who++) {
-                Arrays.fill(leasts[who], Long.MAX_VALUE);
+                Arrays.fill(leasts[who], ABOVE_ALL);
                 for (int own = 0; own < OWNS; own++) {
                     ownCosts[who][own] = state.ownCost(who, own);
                 }
@@ -1193,7 +1195,7 @@ public final class CareRules {
 
         private void listRests(Field field, Bills bills, int shift) {
             restCount = 0;
-            greatestTotal = Long.MAX_VALUE;
+            greatestTotal = ABOVE_ALL;
             for (int i = 0; i < field.count; i++) {
                 int cell = field.cells[i];
                 if (costs[0][cell] == leasts[0][ownOf(cell, 1)] && costs[1][cell] == leasts[1][ownOf(cell, 0)]) {
@@ -1214,7 +1216,7 @@ public final class CareRules {
         /** The first cell with the least COSTS of the TWO together. */
         int cheapest(Field field) {
             int cheapest = 0;
-            long least = Long.MAX_VALUE;
+            long least = ABOVE_ALL;
             for (int i = 0; i < field.count; i++) {
                 int cell = field.cells[i];
                 long both = costs[0][cell] + costs[1][cell];
@@ -1332,7 +1334,7 @@ public final class CareRules {
         }
     }
 
-    /** Reads TEXTS from THE TAPE. A TEXT with a FAULT is answered by null; then place is the FAULT. */
+    /** Reads TEXTS from THE TAPE. A TEXT with a FAULT is answered by null. */
     private static final class TextReader {
         // TOKENS that are no SIGNS; a SIGN is told by its byte.
         private static final int END = -1;
@@ -1343,23 +1345,30 @@ public final class CareRules {
         private static final int SIZE_WORD = -6;
         private static final int PAYS_WORD = -7;
         private static final String SIGNS = ";<=+-*/()";
+        // No step is this one, for numbers are 0 or more and all others below 0 down to SAME.
+        private static final int NO_STEP = Text.SAME - 1;
 
         private final Tape tape;
+        // All TOKENS of THE TAPE and END: what each is, where it begins, and of a NUMBER or a NAME its step.
+        private final int[] tokens = new int[MOST_BYTES + 1];
+        private final int[] places = new int[MOST_BYTES + 1];
+        private final int[] meanings = new int[MOST_BYTES + 1];
+        private int tokenCount = 0;
+        private int at = 0;
         private final int[] steps = new int[MOST_BYTES];
         private int stepCount = 0;
-        /** Where the TOKEN that is looked at begins. */
-        int place = 0;
-        private int behind = 0;
-        private int token = END;
-        // Of a NUMBER what it is, of a NAME its step.
-        private int meaning = 0;
 
         TextReader(Tape tape) {
             this.tape = tape;
         }
 
+        /** The FAULT of the TEXT that was read last. */
+        int fault() {
+            return places[at];
+        }
+
         Harm readHarm() {
-            begin();
+            cutTokens();
             if (!pass(CHANCE_WORD)) {
                 return null;
             }
@@ -1368,19 +1377,19 @@ public final class CareRules {
                 return null;
             }
             Text size = takeText();
-            if (size == null || !pass(';') || token != END) {
+            if (size == null || !pass(';') || tokens[at] != END) {
                 return null;
             }
             return new Harm(chance, size);
         }
 
         Text readTold() {
-            begin();
+            cutTokens();
             if (!pass(PAYS_WORD)) {
                 return null;
             }
             Text text = takeText();
-            return token == END ? text : null;
+            return tokens[at] == END ? text : null;
         }
 
         private Text takeText() {
@@ -1394,11 +1403,10 @@ public final class CareRules {
             if (!takeSum(open)) {
                 return false;
             }
-            if (token != '<' && token != '=') {
+            int sign = pass('<') ? Text.LESS : pass('=') ? Text.SAME : NO_STEP;
+            if (sign == NO_STEP) {
                 return true;
             }
-            int sign = token == '<' ? Text.LESS : Text.SAME;
-            advance();
             boolean stands = takeSum(open);
             emit(sign);
             return stands;
@@ -1406,9 +1414,11 @@ public final class CareRules {
 
         private boolean takeSum(int open) {
             boolean stands = takeTerm(open);
-            for (int i = 0; i < MOST_BYTES && stands && (token == '+' || token == '-'); i++) {
-                int sign = token == '+' ? Text.ADD : Text.SUBTRACT;
-                advance();
+            for (int i = 0; i < MOST_BYTES && stands; i++) {
+                int sign = pass('+') ? Text.ADD : pass('-') ? Text.SUBTRACT : NO_STEP;
+                if (sign == NO_STEP) {
+                    return true;
+                }
                 stands = takeTerm(open);
                 emit(sign);
             }
@@ -1417,9 +1427,11 @@ public final class CareRules {
 
         private boolean takeTerm(int open) {
             boolean stands = takeOne(open);
-            for (int i = 0; i < MOST_BYTES && stands && (token == '*' || token == '/'); i++) {
-                int sign = token == '*' ? Text.TIMES : Text.DIVIDE;
-                advance();
+            for (int i = 0; i < MOST_BYTES && stands; i++) {
+                int sign = pass('*') ? Text.TIMES : pass('/') ? Text.DIVIDE : NO_STEP;
+                if (sign == NO_STEP) {
+                    return true;
+                }
                 stands = takeOne(open);
                 emit(sign);
             }
@@ -1427,19 +1439,20 @@ public final class CareRules {
         }
 
         private boolean takeOne(int open) {
-            if (token == NUMBER || token == NAME) {
+            int meaning = meanings[at];
+            if (pass(NUMBER) || pass(NAME)) {
                 emit(meaning);
-                advance();
                 return true;
             }
-            if ((token != '(' && token != '-') || open >= MOST_OPEN) {
+            if (open >= MOST_OPEN) {
                 return false;
             }
-            if (token == '(') {
-                advance();
+            if (pass('(')) {
                 return takeE(open + 1) && pass(')');
             }
-            advance();
+            if (!pass('-')) {
+                return false;
+            }
             boolean stands = takeOne(open + 1);
             emit(Text.NEGATE);
             return stands;
@@ -1452,61 +1465,65 @@ public final class CareRules {
             }
         }
 
+        /** Goes on to the next TOKEN if this one is as expected; END, the last, is never passed. */
         private boolean pass(int expected) {
-            if (token != expected) {
+            if (tokens[at] != expected || at + 1 >= tokenCount) {
                 return false;
             }
-            advance();
+            at++;
             return true;
         }
 
-        private void begin() {
-            behind = 0;
-            advance();
+        // All TOKENS are cut ahead of reading, so that cutting doesn't stand upon the recursion of takeE.
+        private void cutTokens() {
+            tokenCount = 0;
+            at = 0;
+            for (int place = 0; place < tape.size; place++) {
+                if (tape.bytes[place] != ' ' && !goesOn(place)) {
+                    cutToken(place);
+                }
+            }
+            enter(END, tape.size, 0);
         }
 
-        private void advance() {
-            place = behind;
-            while (place < tape.size && tape.bytes[place] == ' ') {
-                place++;
+        /** Whether a byte belongs to the TOKEN of the byte ahead of it: only WORDS and NUMBERS have more than one. */
+        private boolean goesOn(int place) {
+            if (place == 0) {
+                return false;
             }
-            behind = place;
-            if (place >= tape.size) {
-                token = END;
-            } else if (isLetter(tape.bytes[place])) {
-                takeWord();
-            } else if (isDigit(tape.bytes[place])) {
-                takeNumber();
-            } else {
-                behind = place + 1;
-                token = SIGNS.indexOf((char) tape.bytes[place]) >= 0 ? tape.bytes[place] : WRONG_TOKEN;
-            }
+            int one = tape.bytes[place];
+            int ahead = tape.bytes[place - 1];
+            return (isLetter(one) && isLetter(ahead)) || (isDigit(one) && isDigit(ahead));
         }
 
-        private void takeWord() {
-            while (behind < tape.size && isLetter(tape.bytes[behind])) {
+        private void cutToken(int place) {
+            int one = tape.bytes[place];
+            int behind = place + 1;
+            while (behind < tape.size && goesOn(behind)) {
                 behind++;
             }
-            meaning = nameStep();
-            if (meaning < 0) {
-                token = NAME;
-            } else if (spells("chance")) {
-                token = CHANCE_WORD;
-            } else if (spells("size")) {
-                token = SIZE_WORD;
-            } else if (spells("pays")) {
-                token = PAYS_WORD;
+            if (isLetter(one)) {
+                int step = behind == place + 1 ? nameStep(one) : NO_STEP;
+                enter(step == NO_STEP ? wordToken(place, behind) : NAME, place, step);
+            } else if (isDigit(one)) {
+                int number = numberOf(place, behind);
+                enter(number > MOST_NUMBER ? WRONG_TOKEN : NUMBER, place, number);
             } else {
-                token = WRONG_TOKEN;
+                enter(SIGNS.indexOf((char) one) >= 0 ? one : WRONG_TOKEN, place, 0);
             }
         }
 
-        /** The step of the NAME that the word is, or 0. */
-        private int nameStep() {
-            if (behind - place != 1) {
-                return 0;
+        private void enter(int token, int place, int meaning) {
+            if (tokenCount < tokens.length) {
+                tokens[tokenCount] = token;
+                places[tokenCount] = place;
+                meanings[tokenCount] = meaning;
+                tokenCount++;
             }
-            switch (tape.bytes[place]) {
+        }
+
+        private static int nameStep(int letter) {
+            switch (letter) {
                 case 'a':
                     return Text.NAME_A;
                 case 'b':
@@ -1516,30 +1533,39 @@ public final class CareRules {
                 case 'h':
                     return Text.NAME_H;
                 default:
-                    return 0;
+                    return NO_STEP;
             }
         }
 
-        private boolean spells(String word) {
-            if (behind - place != word.length()) {
+        private int wordToken(int from, int behind) {
+            if (spells(from, behind, "chance")) {
+                return CHANCE_WORD;
+            }
+            if (spells(from, behind, "size")) {
+                return SIZE_WORD;
+            }
+            return spells(from, behind, "pays") ? PAYS_WORD : WRONG_TOKEN;
+        }
+
+        private boolean spells(int from, int behind, String word) {
+            if (behind - from != word.length() || behind > tape.size) {
                 return false;
             }
             for (int i = 0; i < word.length(); i++) {
-                if (tape.bytes[place + i] != word.charAt(i)) {
+                if (tape.bytes[from + i] != word.charAt(i)) {
                     return false;
                 }
             }
             return true;
         }
 
-        private void takeNumber() {
-            meaning = 0;
-            while (behind < tape.size && isDigit(tape.bytes[behind])) {
-                // Held just above the most, so that no row of digits wraps.
-                meaning = Math.min(10 * meaning + tape.bytes[behind] - '0', MOST_NUMBER + 1);
-                behind++;
+        /** Held just above the most that a NUMBER may be, so that no row of digits wraps. */
+        private int numberOf(int from, int behind) {
+            int number = 0;
+            for (int i = from; i < behind; i++) {
+                number = Math.min(10 * number + tape.bytes[i] - '0', MOST_NUMBER + 1);
             }
-            token = meaning > MOST_NUMBER ? WRONG_TOKEN : NUMBER;
+            return number;
         }
 
         private static boolean isLetter(int one) {
